@@ -14,6 +14,7 @@ public final class RaftForest {
     private static final int NOT_OF_VILLAGES = -1000000;
 
     private static final int MOST_BYTES = 400;
+    private static final int MOST_DIGITS = 5;
     private static final int MOST_BENDS = 9;
     private static final int MOST_VILLAGES = 6;
     private static final int MOST_WOODS = 4;
@@ -870,11 +871,15 @@ public final class RaftForest {
         System.arraycopy(from, 0, to, 0, Math.min(from.length, to.length));
     }
 
-    /** The TAPE, and how far it has been read. */
+    /** The TAPE, and the sign, word or number on it that stands next for a reader. */
     private static final class Tape {
         final int[] bytes = new int[MOST_BYTES];
         int size;
-        int at;
+        /** Where what stands next begins, and where it ends. */
+        private int at;
+        private int stop;
+        /** Its first byte; NONE at the end. */
+        int first;
         /** The FAULT that was found; 0 as long as there is none. */
         int fault;
 
@@ -886,47 +891,68 @@ public final class RaftForest {
         }
 
         void rewind() {
-            at = 0;
             fault = 0;
+            stop = 0;
+            pass();
         }
 
-        /** Always false, so that a reader can end with it. */
-        boolean fails(int kind, int place) {
-            if (fault == 0) {
-                fault = 1 + 8 * place + kind;
-            }
-            return false;
-        }
-
-        /** The next byte that is no blank; NONE at the end. */
-        int look() {
+        /** Goes on behind what stands next. */
+        void pass() {
+            at = stop;
             while (at < size && bytes[at] == ' ') {
                 at++;
             }
-            return at < size ? bytes[at] : NONE;
-        }
-
-        boolean takesSign(char sign) {
-            if (look() != sign) {
-                return false;
+            first = at < size ? bytes[at] : NONE;
+            stop = at < size ? at + 1 : size;
+            // which bytes go on behind the first one, and how far
+            int low = 256;
+            int high = 256;
+            int limit = size;
+            if (first == '<' || first == '>') {
+                low = '=';
+                high = '=';
+                limit = at + 2;
+            } else if (first >= 'a' && first <= 'z') {
+                low = 'a';
+                high = 'z';
+            } else if (first >= '0' && first <= '9') {
+                low = '0';
+                high = '9';
             }
-            at++;
-            return true;
-        }
-
-        /** Where the word that stands next is behind its last letter. */
-        int wordEnd() {
-            look();
-            int stop = at;
-            while (stop < size && bytes[stop] >= 'a' && bytes[stop] <= 'z') {
+            while (stop < size && stop < limit && bytes[stop] >= low && bytes[stop] <= high) {
                 stop++;
             }
-            return stop;
+        }
+
+        /** Always false, so that a reader can end with it. */
+        boolean fails(int kind) {
+            fault = 1 + 8 * at + kind;
+            return false;
+        }
+
+        boolean isNumber() {
+            return first >= '0' && first <= '9';
+        }
+
+        /** The NUMBER that stands next; NONE if it has more digits than one may have. */
+        int number() {
+            if (stop - at > MOST_DIGITS) {
+                return NONE;
+            }
+            int value = 0;
+            for (int i = at; i < stop; i++) {
+                value = value * 10 + bytes[i] - '0';
+            }
+            return value;
+        }
+
+        boolean isLong() {
+            return stop - at > 1;
         }
 
         /** Which word of a list, parted by blanks, stands next; NONE if none of them does. */
         int wordIn(String list) {
-            int letters = wordEnd() - at;
+            int letters = stop - at;
             int number = 0;
             int alike = 0;
             for (int i = 0; i <= list.length() && letters > 0; i++) {
@@ -947,36 +973,8 @@ public final class RaftForest {
             if (wordIn(word) != 0) {
                 return false;
             }
-            at = wordEnd();
+            pass();
             return true;
-        }
-
-        boolean isAtNumber() {
-            int next = look();
-            return next >= '0' && next <= '9';
-        }
-
-        /** Reads a NUMBER; NONE, and a FAULT, without one or if it is not as told. */
-        int number(int low, int high) {
-            look();
-            int from = at;
-            int value = 0;
-            while (at < size && bytes[at] >= '0' && bytes[at] <= '9') {
-                // five digits are all that count, and no more could go round
-                if (at - from < 5) {
-                    value = value * 10 + bytes[at] - '0';
-                }
-                at++;
-            }
-            if (at == from) {
-                fails(CANNOT_STAND, from);
-                return NONE;
-            }
-            if (at - from > 5 || value < low || value > high) {
-                fails(WRONG_NUMBER, from);
-                return NONE;
-            }
-            return value;
         }
     }
 
@@ -1037,21 +1035,22 @@ public final class RaftForest {
             for (int clause = 0; clause <= MOST_RIVER_CLAUSES; clause++) {
                 int kind = tape.wordIn(RIVER_CLAUSES);
                 if (kind == NONE) {
-                    return tape.fails(CANNOT_STAND, tape.at);
+                    return tape.fails(CANNOT_STAND);
                 }
                 if (clause == MOST_RIVER_CLAUSES || isTooMany(kind, clause)) {
-                    return tape.fails(CLAUSE_TOO_MANY, tape.at);
+                    return tape.fails(CLAUSE_TOO_MANY);
                 }
-                tape.at = tape.wordEnd();
+                tape.pass();
                 if (!readsClause(kind)) {
                     return false;
                 }
-                if (tape.look() == NONE) {
+                if (tape.first == NONE) {
                     return true;
                 }
-                if (!tape.takesSign(';')) {
-                    return tape.fails(CANNOT_STAND, tape.at);
+                if (tape.first != ';') {
+                    return tape.fails(CANNOT_STAND);
                 }
+                tape.pass();
             }
             return false;
         }
@@ -1077,51 +1076,50 @@ public final class RaftForest {
         private boolean readsClause(int kind) {
             switch (kind) {
                 case TELLS_RIVER:
-                    told.bends = tape.number(2, MOST_BENDS);
+                    told.bends = readNumber(2, MOST_BENDS);
                     break;
                 case TELLS_VILLAGE:
-                    told.villageBends[told.villages] = tape.number(0, told.bends - 1);
+                    told.villageBends[told.villages] = readNumber(0, told.bends - 1);
                     told.villages++;
                     break;
                 case TELLS_WIDTH:
-                    readWidth();
+                    int bend = readNumber(0, told.bends - 1);
+                    int width = readNumber(1, 9);
+                    if (bend != NONE) {
+                        told.widths[bend] = width;
+                    }
                     break;
                 case TELLS_WOOD:
-                    told.woodPrices[told.woods] = tape.number(1, 99);
+                    told.woodPrices[told.woods] = readNumber(1, 99);
                     told.woods++;
                     break;
                 case TELLS_LOG:
-                    readLog();
+                    told.logWoods[told.logs] = readNumber(0, told.woods - 1);
+                    told.logLengths[told.logs] = readNumber(1, 99);
+                    told.logRings[told.logs] = readNumber(1, 99);
+                    told.logVillages[told.logs] = readNumber(0, told.villages - 1);
+                    told.logs++;
                     break;
                 default:
-                    told.toll = tape.number(0, 9);
+                    told.toll = readNumber(0, 9);
                     tollTold = true;
                     break;
             }
             return tape.fault == 0;
         }
 
-        private void readWidth() {
-            int bend = tape.number(0, told.bends - 1);
-            if (bend == NONE) {
-                return;
+        /** Reads a NUMBER; NONE, and a FAULT, if it is not as told; NONE, too, behind a FAULT, which stays. */
+        private int readNumber(int low, int high) {
+            if (tape.fault != 0) {
+                return NONE;
             }
-            told.widths[bend] = tape.number(1, 9);
-        }
-
-        private void readLog() {
-            int log = told.logs;
-            told.logWoods[log] = tape.number(0, told.woods - 1);
-            if (tape.fault == 0) {
-                told.logLengths[log] = tape.number(1, 99);
+            int number = tape.isNumber() ? tape.number() : NONE;
+            if (number >= low && number <= high) {
+                tape.pass();
+                return number;
             }
-            if (tape.fault == 0) {
-                told.logRings[log] = tape.number(1, 99);
-            }
-            if (tape.fault == 0) {
-                told.logVillages[log] = tape.number(0, told.villages - 1);
-            }
-            told.logs++;
+            tape.fails(tape.isNumber() ? WRONG_NUMBER : CANNOT_STAND);
+            return NONE;
         }
     }
 
@@ -1154,7 +1152,8 @@ public final class RaftForest {
         /** No step stands for less than a byte of the text, so its length is enough. */
         private final int[] steps = new int[MOST_BYTES];
         private int size;
-        /** Which WORDS stand in it, as bits: what is dear to tell is told only where it is asked. */
+        /** Which kinds of CLAUSE and which WORDS stand in it, as bits: what is dear is told only where it is asked. */
+        private int kinds;
         private int words;
         private final long[] stack = new long[MOST_ITEMS];
         /** The SUM of the CLAUSE that was found last. */
@@ -1162,6 +1161,7 @@ public final class RaftForest {
 
         void clear() {
             size = 0;
+            kinds = 0;
             words = 0;
         }
 
@@ -1177,6 +1177,7 @@ public final class RaftForest {
 
         /** Begins a CLAUSE: the place at which its end is to be told. */
         int begin(int kind) {
+            kinds |= 1 << kind;
             write(CLAUSE + kind);
             write(0);
             return size - 1;
@@ -1188,7 +1189,11 @@ public final class RaftForest {
             }
         }
 
-        boolean asks(int word) {
+        boolean hasKind(int kind) {
+            return (kinds >> kind & 1) == 1;
+        }
+
+        boolean hasWord(int word) {
             return (words >> word & 1) == 1;
         }
 
@@ -1274,116 +1279,106 @@ public final class RaftForest {
             for (int clause = 0; clause <= MOST_RULE_CLAUSES; clause++) {
                 int kind = tape.wordIn(RULE_CLAUSES);
                 if (kind == NONE) {
-                    return tape.fails(CANNOT_STAND, tape.at);
+                    return tape.fails(CANNOT_STAND);
                 }
                 if (clause == MOST_RULE_CLAUSES) {
-                    return tape.fails(CLAUSE_TOO_MANY, tape.at);
+                    return tape.fails(CLAUSE_TOO_MANY);
                 }
-                tape.at = tape.wordEnd();
+                tape.pass();
                 int begun = rule.begin(kind);
-                if (!readsClause(rule, kind)) {
+                boolean sums = kind == ELECT || kind == MINE;
+                if (sums && !readsSum(rule)) {
                     return false;
                 }
+                boolean tests = !sums || tape.takesWord("if");
+                if (tests && !readsTest(rule, 0)) {
+                    return false;
+                }
+                rule.write(!sums ? Rule.HOLDS : tests ? Rule.GIVES_IF : Rule.GIVES);
                 rule.close(begun);
-                if (tape.look() == NONE) {
+                if (tape.first == NONE) {
                     return true;
                 }
-                if (!tape.takesSign(';')) {
-                    return tape.fails(CANNOT_STAND, tape.at);
+                if (tape.first != ';') {
+                    return tape.fails(CANNOT_STAND);
                 }
+                tape.pass();
             }
             return false;
         }
 
-        private boolean readsClause(Rule rule, int kind) {
-            if (kind != ELECT && kind != MINE) {
-                if (!readsTest(rule, 0)) {
-                    return false;
-                }
-                rule.write(Rule.HOLDS);
-                return true;
-            }
-            if (!readsSum(rule)) {
-                return false;
-            }
-            if (!tape.takesWord("if")) {
-                rule.write(Rule.GIVES);
-                return true;
-            }
-            if (!readsTest(rule, 0)) {
-                return false;
-            }
-            rule.write(Rule.GIVES_IF);
-            return true;
-        }
-
         private boolean readsTest(Rule rule, int depth) {
-            if (!readsPart(rule, depth)) {
-                return false;
-            }
-            for (int parts = 1; parts < Rule.MOST_ITEMS && tape.takesWord("or"); parts++) {
-                if (!readsPart(rule, depth)) {
-                    return false;
-                }
-                rule.write(Rule.OR);
-            }
-            return true;
-        }
-
-        private boolean readsPart(Rule rule, int depth) {
-            if (!readsFact(rule, depth)) {
-                return false;
-            }
-            for (int facts = 1; facts < Rule.MOST_ITEMS && tape.takesWord("and"); facts++) {
+            boolean joinsFacts = false;
+            boolean joinsParts = false;
+            for (int facts = 0; facts < Rule.MOST_ITEMS; facts++) {
                 if (!readsFact(rule, depth)) {
                     return false;
                 }
-                rule.write(Rule.AND);
+                if (joinsFacts) {
+                    rule.write(Rule.AND);
+                }
+                joinsFacts = tape.takesWord("and");
+                if (joinsFacts) {
+                    continue;
+                }
+                // here a PART ends, and with it what waits for its end
+                if (joinsParts) {
+                    rule.write(Rule.OR);
+                }
+                joinsParts = tape.takesWord("or");
+                if (!joinsParts) {
+                    return true;
+                }
             }
-            return true;
+            return tape.fails(CANNOT_STAND);
         }
 
         private boolean readsFact(Rule rule, int depth) {
-            boolean opens = tape.look() == '[';
+            boolean opens = tape.first == '[';
             boolean denies = tape.wordIn("not") == 0;
-            if ((opens || denies) && depth >= DEEPEST) {
-                return tape.fails(TOO_DEEP, tape.at);
+            if (!opens && !denies) {
+                return readsComparison(rule);
             }
+            if (depth >= DEEPEST) {
+                return tape.fails(TOO_DEEP);
+            }
+            tape.pass();
             if (denies) {
-                tape.at = tape.wordEnd();
                 if (!readsFact(rule, depth + 1)) {
                     return false;
                 }
                 rule.write(Rule.NOT);
                 return true;
             }
-            if (opens) {
-                tape.at++;
-                if (!readsTest(rule, depth + 1)) {
-                    return false;
-                }
-                return tape.takesSign(']') || tape.fails(CANNOT_STAND, tape.at);
+            if (!readsTest(rule, depth + 1)) {
+                return false;
             }
-            return readsComparison(rule);
+            if (tape.first != ']') {
+                return tape.fails(CANNOT_STAND);
+            }
+            tape.pass();
+            return true;
         }
 
         private boolean readsComparison(Rule rule) {
             if (!readsSum(rule)) {
                 return false;
             }
-            int sign = tape.look();
-            if (sign != '<' && sign != '=' && sign != '>') {
-                return tape.fails(CANNOT_STAND, tape.at);
+            int step;
+            if (tape.first == '<') {
+                step = tape.isLong() ? Rule.AT_MOST : Rule.BELOW;
+            } else if (tape.first == '>') {
+                step = tape.isLong() ? Rule.AT_LEAST : Rule.ABOVE;
+            } else if (tape.first == '=') {
+                step = Rule.EQUAL;
+            } else {
+                return tape.fails(CANNOT_STAND);
             }
-            if (!isItem(tape.at)) {
-                return false;
+            if (items >= Rule.MOST_ITEMS) {
+                return tape.fails(ITEM_TOO_MANY);
             }
-            tape.at++;
-            int step = sign == '<' ? Rule.BELOW : sign == '=' ? Rule.EQUAL : Rule.ABOVE;
-            if (sign != '=' && tape.at < tape.size && tape.bytes[tape.at] == '=') {
-                tape.at++;
-                step = sign == '<' ? Rule.AT_MOST : Rule.AT_LEAST;
-            }
+            items++;
+            tape.pass();
             if (!readsSum(rule)) {
                 return false;
             }
@@ -1392,71 +1387,52 @@ public final class RaftForest {
         }
 
         private boolean readsSum(Rule rule) {
-            if (!readsTerm(rule)) {
-                return false;
-            }
-            for (int terms = 1; terms < Rule.MOST_ITEMS; terms++) {
-                int sign = tape.look();
-                if (sign != '+' && sign != '-') {
-                    return true;
-                }
-                tape.at++;
-                if (!readsTerm(rule)) {
-                    return false;
-                }
-                rule.write(sign == '+' ? Rule.PLUS : Rule.MINUS);
-            }
-            return true;
-        }
-
-        private boolean readsTerm(Rule rule) {
-            if (!readsValue(rule)) {
-                return false;
-            }
-            for (int values = 1; values <= Rule.MOST_ITEMS; values++) {
-                int sign = tape.look();
-                if (sign != '*' && sign != '/' && sign != '%') {
-                    return true;
-                }
-                tape.at++;
+            int joinsValues = NONE;
+            int joinsTerms = NONE;
+            for (int values = 0; values < Rule.MOST_ITEMS + 1; values++) {
                 if (!readsValue(rule)) {
                     return false;
                 }
-                rule.write(sign == '*' ? Rule.TIMES : sign == '/' ? Rule.OVER : Rule.REST);
+                if (joinsValues != NONE) {
+                    rule.write(joinsValues);
+                }
+                joinsValues = tape.first == '*' ? Rule.TIMES : tape.first == '/' ? Rule.OVER
+                        : tape.first == '%' ? Rule.REST : NONE;
+                if (joinsValues == NONE) {
+                    // here a TERM ends, and with it what waits for its end
+                    if (joinsTerms != NONE) {
+                        rule.write(joinsTerms);
+                    }
+                    joinsTerms = tape.first == '+' ? Rule.PLUS : tape.first == '-' ? Rule.MINUS : NONE;
+                    if (joinsTerms == NONE) {
+                        return true;
+                    }
+                }
+                tape.pass();
             }
-            return true;
+            return tape.fails(CANNOT_STAND);
         }
 
         private boolean readsValue(Rule rule) {
-            boolean isNumber = tape.isAtNumber();
-            int place = tape.at;
             int step;
-            if (isNumber) {
-                int number = tape.number(0, 99999);
+            if (tape.isNumber()) {
+                int number = tape.number();
                 if (number == NONE) {
-                    return false;
+                    return tape.fails(WRONG_NUMBER);
                 }
                 step = -1 - number;
             } else {
                 step = tape.wordIn(VALUE_WORDS);
                 if (step == NONE) {
-                    return tape.fails(CANNOT_STAND, place);
+                    return tape.fails(CANNOT_STAND);
                 }
-                tape.at = tape.wordEnd();
             }
-            if (!isItem(place)) {
-                return false;
-            }
-            rule.write(step);
-            return true;
-        }
-
-        /** Counts one VALUE or FACT more, if it is not one too many. */
-        private boolean isItem(int place) {
             if (items >= Rule.MOST_ITEMS) {
-                return tape.fails(ITEM_TOO_MANY, place);
+                return tape.fails(ITEM_TOO_MANY);
             }
             items++;
+            tape.pass();
+            rule.write(step);
             return true;
         }
     }
@@ -1467,7 +1443,8 @@ public final class RaftForest {
         int water;
         int ruleInForce = NONE;
         int law;
-        int lawRule = NONE;
+        /** A number of a RULE in any LAW, so that it can be looked up untested. */
+        int lawRule;
         private int logs;
         final int[] villageRules = new int[MOST_VILLAGES];
         final int[] dams = new int[MOST_BENDS];
@@ -1485,7 +1462,7 @@ public final class RaftForest {
             water = 50;
             ruleInForce = NONE;
             law = 0;
-            lawRule = NONE;
+            lawRule = 0;
             logs = river.logs;
             Arrays.fill(villageRules, NONE);
             Arrays.fill(dams, 0);
@@ -1819,7 +1796,7 @@ public final class RaftForest {
                     continue;
                 }
                 if (state.law == 3) {
-                    Rule rule = rules[Math.floorMod(state.lawRule, MOST_RULES)];
+                    Rule rule = rules[state.lawRule];
                     tellWords(log, village, NONE, 0);
                     if (!rule.finds(MINE, words)) {
                         continue;
@@ -1905,8 +1882,11 @@ public final class RaftForest {
                 return false;
             }
             Rule rule = rules[number];
-            int owner = rule.asks(OWNER_WORD) ? ownerOf(log) : NONE;
-            int room = rule.asks(ROOM_WORD) ? roomFor(kind, log, village) : 0;
+            if (!rule.hasKind(kind)) {
+                return false;
+            }
+            int owner = rule.hasWord(OWNER_WORD) ? ownerOf(log) : NONE;
+            int room = rule.hasWord(ROOM_WORD) ? roomFor(kind, log, village) : 0;
             tellWords(log, village, owner, room);
             return rule.finds(kind, words);
         }
