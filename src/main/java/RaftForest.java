@@ -92,7 +92,7 @@ public final class RaftForest {
     private final int[] row;
     private final int[] rowPlaces;
     private final int[] bestRow;
-    private final long[] netSums;
+    /** Of sets of VILLAGES; of the empty one it stays 0. */
     private final int[] groups;
 
     public RaftForest() {
@@ -112,7 +112,6 @@ public final class RaftForest {
         row = new int[MOST_LET_AHEAD];
         rowPlaces = new int[MOST_LET_AHEAD];
         bestRow = new int[MOST_LET_AHEAD];
-        netSums = new long[1 << MOST_VILLAGES];
         groups = new int[1 << MOST_VILLAGES];
     }
 
@@ -687,15 +686,15 @@ public final class RaftForest {
         }
         int villages = now.river.villages;
         for (int set = 1; set < 1 << villages; set++) {
-            int least = Integer.numberOfTrailingZeros(set);
-            netSums[set] = netSums[set & set - 1] + now.books.net(least);
+            long sum = 0;
             int most = 0;
             for (int i = 0; i < villages; i++) {
                 if ((set >> i & 1) == 1) {
+                    sum += now.books.net(i);
                     most = Math.max(most, groups[set ^ 1 << i]);
                 }
             }
-            groups[set] = netSums[set] == 0 ? most + 1 : most;
+            groups[set] = sum == 0 ? most + 1 : most;
         }
         return villages - groups[(1 << villages) - 1];
     }
