@@ -180,18 +180,19 @@ public final class DamTest {
         // room: 0 if it is not in the water; the next BEND's; 99 at the last one
         RaftForest x = Texts.forest("river 3;village 0;village 2;wood 1;width 1 4;"
                 + "log 0 1 1 0;log 0 1 1 0;log 0 1 1 1;log 0 1 1 1");
-        Texts.rule(x, "elect 1 if room=0;elect 2 if room=4;elect 3 if room=99;elect 0-1");
+        Texts.rule(x, "elect 2 if room=0;elect 3 if room=4;elect 1 if room=99;elect 9");
         Texts.rule(x, "elect water");
         Texts.rule(x, "elect village*10+owner if owner=1;elect 5 if bend=2");
         x.force(0);
         x.launch(1);
         x.launch(3);
         x.dam(1);
-        CHECK.same("99 first", x.elected(0), 3);
-        CHECK.same("the dam goes ahead of the election", x.elected(1), 1);
-        CHECK.same("ashore", x.elected(2), 0);
+        CHECK.same("the dam goes ahead of the election", x.elected(0), 1);
+        CHECK.same("ashore", x.elected(1), 0);
+        CHECK.same("ashore", x.elected(2), 2);
+        CHECK.same("99 last", x.elected(3), 3);
         x.flood(0);
-        order(x, "room", 3, 1, 0, 2);
+        order(x, "room", 1, 0, 2, 3);
         x.force(2);
         CHECK.same("village is 9", x.elected(0), 2);
         // water: that behind the FLOOD
@@ -216,6 +217,10 @@ public final class DamTest {
         x.elected(0);
         CHECK.same("dams stay", x.bend(1, 1), 1);
         CHECK.same("water stays", x.count(8), 50);
+        // no more WATER than there is now
+        Texts.rule(x, "elect log if water=50");
+        x.force(0);
+        CHECK.same("water as it is", x.elected(0), 4);
     }
 
     private static void order(RaftForest x, String what, int... logs) {

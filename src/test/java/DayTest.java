@@ -144,6 +144,13 @@ public final class DayTest {
             CHECK.same("alike", x.village(village, 2), 6);
         }
         CHECK.same("the rest", x.count(12), 2);
+        RaftForest y = Texts.forest("river 2;village 0;wood 10;log 0 2 1 0");
+        Texts.rule(y, "jam day<3");
+        y.force(0);
+        y.launch(0);
+        y.days(5);
+        CHECK.same("all to the one village", y.village(0, 2), 20);
+        CHECK.same("no rest", y.count(12), 0);
     }
 
     private static void takes() {

@@ -107,6 +107,12 @@ public final class DebtTest {
         x.cutOver(2, 0, 1);
         x.land(2, 0);
         CHECK.same("nor of another owner", x.repaid(0, 1, 1), 8 + 16);
+        RaftForest y = Texts.forest("river 2;village 0;village 0;wood 1;log 0 6 1 0;log 0 4 1 1");
+        y.launch(1);
+        y.land(1, 0);
+        y.burn(1);
+        CHECK.same("of the first log, too", y.repaid(0, 1, 0), 6);
+        CHECK.same("the set", y.repaid(0, 1, 1), 1);
         for (int[] no : new int[][] {{0, 0, 0}, {0, 2, 0}, {2, 0, 0}, {-1, 0, 0}, {0, -1, 0}, {0, 1, 2}, {0, 1, -1},
             {FAR, 0, 0}}) {
             CHECK.same("repaid(" + no[0] + ", " + no[1] + ", " + no[2] + ")", x.repaid(no[0], no[1], no[2]), -1);

@@ -81,6 +81,12 @@ public final class HandTest {
         CHECK.same("drift", y.log(2, 5), -1);
         CHECK.same("drift burns", y.burn(2), 7);
         CHECK.same("nobody is owed", y.owes(1, 0), 11);
+        CHECK.same("nobody else owes", y.owes(0, 1), 0);
+        CHECK.same("what is owed in all", y.winter(99999), 11);
+        RaftForest z = Texts.forest("river 2;village 0;wood 1;log 0 5 1 0");
+        z.burn(0);
+        CHECK.same("her own is no debt at all", z.winter(99999), 0);
+        CHECK.same("net", z.village(0, 5), 0);
     }
 
     private static void saw() {

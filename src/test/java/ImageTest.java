@@ -47,10 +47,11 @@ public final class ImageTest {
     private static RaftForest full() {
         RaftForest x = Texts.forest("river 3;village 0;village 0;village 1;wood 3;wood 7;width 1 1;toll 1;"
                 + "log 0 5 1 0;log 1 6 2 1;log 0 7 3 0;log 0 8 4 2;log 1 9 5 1");
-        Texts.rule(x, "jam log=2;take village=2 and log=0;elect length;mine notches+village");
-        x.force(0);
-        x.bind(2, 0);
-        x.law(3, 0);
+        Texts.rule(x, "mine 9-village");
+        Texts.rule(x, "jam log=2;take village=2 and log=0;elect length;mine notches+village if not log=4");
+        x.force(1);
+        x.bind(2, 1);
+        x.law(3, 1);
         x.seed(99);
         x.wedding(0);
         x.wedding(1);
@@ -97,16 +98,50 @@ public final class ImageTest {
         CHECK.same("all is as it was", told(x), before);
         CHECK.same("what can be undone, too", x.undo(), 0);
         CHECK.same("cut over undone", x.notch(0, 0), 0);
-        Texts.river(x, "river 9;village 8;wood 99;log 0 99 99 0");
-        x.days(60);
+        x.law(3, 0);
+        CHECK.holds("another rule of the law", told(x) != before);
+        x.back(1);
+        CHECK.same("the law's rule is as it was", told(x), before);
+        otherRiver(x);
         CHECK.same("back over another river", x.back(1), 2);
         CHECK.same("all is as it was", told(x), before);
+        CHECK.same("the sea's coins", x.count(12), 0);
+        CHECK.same("cut over undone", x.undo(), 0);
+        CHECK.same("whose it was", x.notch(0, 0), 0);
+        x.back(1);
         // it goes on alike, twice
         x.days(5);
         long behind = told(x);
         x.back(1);
         x.days(5);
         CHECK.same("it goes on alike", told(x), behind);
+    }
+
+    /** Another RIVER, with something else of all that is kept. */
+    private static void otherRiver(RaftForest x) {
+        Texts.river(x, "river 2;village 0;village 0;village 0;wood 7;log 0 1 1 0;log 0 2 2 1;log 0 3 3 2;log 0 4 4 0;"
+                + "log 0 1 1 0");
+        for (int log = 0; log < 5; log++) {
+            x.launch(log);
+        }
+        x.cutOver(2, 0, 1);
+        x.cut(2, 0);
+        x.cut(1, 2);
+        x.land(1, 2);
+        x.land(2, 2);
+        x.wedding(2);
+        x.wedding(0);
+        for (int i = 0; i < 4; i++) {
+            x.sight(2, 1, i % 3);
+        }
+        x.force(1);
+        x.law(3, 1);
+        x.days(3);
+        x.burn(1);
+        x.seed(3);
+        CHECK.holds("coins of the sea", x.count(12) > 0);
+        CHECK.same("sights", x.count(14), 4);
+        CHECK.same("cuts", x.count(15), 3);
     }
 
     /** All that can be asked, drawn together. */

@@ -162,6 +162,12 @@ public final class LookTest {
         }
         CHECK.same("coins of 0", x.village(0, 2), 31);
         CHECK.same("coins of 1", x.village(1, 2), 31);
+        RaftForest y = Texts.forest("river 2;village 0;wood 1;log 0 1 1 0;log 0 1 1 0");
+        Texts.rule(y, "jam log=0");
+        y.force(0);
+        y.launch(0);
+        y.days(2);
+        CHECK.same("jams in all: of the first log, too", y.count(16), 2);
         for (int no : new int[] {-1, 20, FAR, -FAR}) {
             CHECK.same("count(" + no + ")", x.count(no), -1);
         }

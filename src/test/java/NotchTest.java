@@ -74,7 +74,11 @@ public final class NotchTest {
         x.cut(0, 1);
         x.cutOver(0, 0, 1);
         x.cut(1, 2);
-        CHECK.same("kept", x.count(15), 3);
+        x.cutOver(0, 1, 0);
+        CHECK.same("kept", x.count(15), 4);
+        CHECK.same("log 0 cut over at 1", x.undo(), 0);
+        CHECK.same("as it was", x.notch(0, 1), 1);
+        CHECK.same("the first as it is", x.notch(0, 0), 1);
         CHECK.same("log 1", x.undo(), 1);
         CHECK.same("one notch", x.log(1, 4), 1);
         CHECK.same("log 0 cut over", x.undo(), 0);
@@ -151,5 +155,18 @@ public final class NotchTest {
         CHECK.same("no more", x.undo(), -2);
         CHECK.same("three of the first log stay", x.log(0, 4), 4);
         CHECK.same("none of the last one", x.log(2, 4), 1);
+        // of two villages by turns, cut over and over: what is kept is told rightly when the first ones go
+        RaftForest y = Texts.forest("river 2;village 0;village 0;village 0;wood 1;log 0 1 1 0");
+        y.launch(0);
+        y.cut(0, 2);
+        for (int i = 0; i < 14; i++) {
+            CHECK.same("cut over", y.cutOver(0, i % 2, (i / 2 + 1) % 3), i == 1 ? 2 : (i / 2 + i % 2 * 0) % 3);
+        }
+        CHECK.same("12 are kept", y.count(15), 12);
+        for (int i = 13; i >= 2; i--) {
+            CHECK.same("undone", y.undo(), 0);
+            CHECK.same("as it was", y.notch(0, i % 2), i / 2 % 3);
+        }
+        CHECK.same("no more", y.undo(), -2);
     }
 }

@@ -76,6 +76,8 @@ public final class RiverTextTest {
         fails("river 2\u00ff", 7, 0);
         fails("river 2\u0000", 7, 0);
         fails("river\t2", 5, 0);
+        fails("river{2", 5, 0);
+        fails("river\u00e92", 5, 0);
         // a NUMBER of more digits, or not as told
         fails("river 1", 6, 1);
         fails("river 0", 6, 1);
@@ -145,25 +147,31 @@ public final class RiverTextTest {
 
     private static void newInPlaceOfOld() {
         String text = "river 2;village 0;village 0;wood 3;log 0 9 1 0;log 0 9 1 1;log 0 9 1 0";
-        RaftForest x = Texts.forest(text + ";width 1 1");
-        CHECK.same("rule", Texts.rule(x, "jam day=0;take log=1;mine 1"), 0);
+        RaftForest x = Texts.forest(text + ";log 0 5 1 1;width 1 1;toll 4");
+        CHECK.same("rule", Texts.rule(x, "jam log<3;take log=1 and day=1;mine 1 if log<3"), 0);
         x.force(0);
         x.bind(0, 0);
         x.law(3, 0);
         x.seed(77);
-        x.launch(0);
-        x.launch(1);
-        x.days(3);
+        for (int log = 0; log < 4; log++) {
+            x.launch(log);
+        }
+        x.days(2);
+        CHECK.same("sold", x.log(3, 3), 40);
+        x.days(2);
         x.flood(3);
         x.dam(1);
         x.land(0, 0);
         x.wedding(0);
         x.sight(0, 0, 0);
-        x.cut(0, 0);
-        x.burn(0);
+        CHECK.same("a notch by hand", x.cut(0, 0), 1);
+        CHECK.same("it burns", x.burn(1), 19);
         x.image(2);
-        CHECK.holds("there were jams", x.count(16) > 0);
+        CHECK.holds("there were jams", x.count(16) > 0 && x.log(2, 8) > 0);
         CHECK.holds("there was a debt", x.owes(0, 1) > 0);
+        CHECK.holds("there were coins", x.village(0, 2) > 0);
+        CHECK.same("the sea has coins", x.count(12), 1);
+        CHECK.same("toll", x.count(19), 4);
         CHECK.same("a river", Texts.river(x, text), 3);
         int[] due = {2, 2, 1, 3, 1, -1, 0, 0, 50, 0, 0, 0, 0, 0, 0, 0, 0, 77, 0, 0};
         for (int what = 0; what < due.length; what++) {
@@ -178,9 +186,10 @@ public final class RiverTextTest {
         CHECK.same("nothing to undo", x.undo(), -2);
         CHECK.same("log lies where it was felled", x.log(0, 3), 20);
         CHECK.same("one notch", x.log(0, 4), 1);
-        CHECK.same("no jams", x.log(1, 7), 0);
+        CHECK.same("no jams", x.log(2, 7), 0);
+        CHECK.same("no days of jams on end", x.log(2, 8), 0);
         CHECK.same("no weddings", x.log(0, 10), 0);
-        CHECK.same("images stay", x.back(2), 3);
+        CHECK.same("images stay", x.back(2), 4);
         CHECK.same("width as in the image", x.bend(1, 0), 1);
     }
 

@@ -45,6 +45,12 @@ public final class RuleTextTest {
         fails("jam 1=<1", 6, 0);
         fails("jam 1< =1", 7, 0);
         fails("jam 1<>1", 6, 0);
+        fails("jam 1<==1", 7, 0);
+        fails("jam 1>==1", 7, 0);
+        fails("jam log{=1", 7, 0);
+        fails("jam log\u00e9=1", 7, 0);
+        fails("jam log`=1", 7, 0);
+        fails("jam 1/:=1", 6, 0);
         fails("jam 1+=1", 6, 0);
         fails("jam 1++1=1", 6, 0);
         fails("jam -1=1", 4, 0);
@@ -133,6 +139,14 @@ public final class RuleTextTest {
             CHECK.same("rule " + i, Texts.rule(x, "mine 1"), i);
             CHECK.same("rules", x.count(4), i + 1);
         }
+        // nothing of a text with a FAULT is left in the RULE that comes in its place
+        RaftForest y = Texts.forest("river 2;village 0;wood 1;log 0 1 1 0");
+        CHECK.same("a fault", Texts.rule(y, "jam 1=1;take 1=1;what"), Texts.fault(17, 0));
+        CHECK.same("a rule", Texts.rule(y, "jam 1=2"), 0);
+        y.force(0);
+        y.bind(0, 0);
+        y.launch(0);
+        CHECK.same("it jams nothing", y.floats(1, 0), 0);
         CHECK.same("a seventh", Texts.rule(x, "mine 1"), -1);
         CHECK.same("the tape stays", x.count(18), 6);
         CHECK.same("a seventh with a fault", Texts.rule(x, "what"), -1);
@@ -242,6 +256,10 @@ public final class RuleTextTest {
             x.launch(0);
             x.days(3);
         };
+        word(x -> {
+            Texts.river(x, "river 2;village 0;village 0;wood 5;log 0 2 3 1");
+            x.launch(0);
+        }, "felled", 1);
         word(mud, "notches", 0);
         word(mud, "felled", 9);
         word(mud, "last", 9);
