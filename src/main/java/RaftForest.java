@@ -651,10 +651,11 @@ public final class RaftForest {
         }
         Books books = now.books;
         int later = books.partedSight(log, place);
-        if (later == NONE) {
+        int earlier = later == NONE ? NONE : books.sightAhead(later);
+        if (earlier == NONE) {
             return REFUSED;
         }
-        int earlierDay = books.sightDays[books.sightAhead(later)];
+        int earlierDay = books.sightDays[earlier];
         int laterDay = books.sightDays[later];
         switch (what) {
             case 0:

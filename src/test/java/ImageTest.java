@@ -120,7 +120,7 @@ public final class ImageTest {
     /** Another RIVER, with something else of all that is kept. */
     private static void otherRiver(RaftForest x) {
         Texts.river(x, "river 2;village 0;village 0;village 0;wood 7;log 0 1 1 0;log 0 2 2 1;log 0 3 3 2;log 0 4 4 0;"
-                + "log 0 1 1 0");
+                + "log 0 1 1 0;log 0 5 5 2");
         for (int log = 0; log < 5; log++) {
             x.launch(log);
         }
@@ -132,7 +132,7 @@ public final class ImageTest {
         x.wedding(2);
         x.wedding(0);
         for (int i = 0; i < 4; i++) {
-            x.sight(2, 1, i % 3);
+            x.sight(2, 1, (i + 1) % 3);
         }
         x.force(1);
         x.law(3, 1);
