@@ -148,13 +148,23 @@ final class HandEdges {
         e.edge("The last 12 of these can be UNDONE, the last first, as long as what was cut stands there still (one cut behind"
                 + " the others: as the last one).", () -> {
                     RaftForest x = Texts.forest("river 2;village 0;village 0;wood 1" + ";log 0 1 1 0".repeat(3));
-                    for (int i = 0; i < 15; i++) {
+                    for (int i = 0; i < 14; i++) {
                         e.due(x, "count(15) = " + Math.min(i, 12), "cut(" + i % 3 + ", 0) = " + (i / 3 + 2));
                     }
-                    for (int i = 14; i >= 3; i--) {
-                        e.due(x, "count(15) = " + (i - 2), "undo() = " + i % 3);
+                    for (int i = 13; i >= 2; i--) {
+                        e.due(x, "count(15) = " + (i - 1), "undo() = " + i % 3);
                     }
-                    e.due(x, "count(15) = 0", "undo() = -2", "log(0, 4) = 2", "log(2, 4) = 2");
+                    e.due(x, "count(15) = 0", "undo() = -2", "log(0, 4) = 2", "log(1, 4) = 2", "log(2, 4) = 1");
+                    // places, and whose each was, go with those that are dropped
+                    RaftForest y = notched(0, 1, 2);
+                    Calls.run(y, "undo()", "undo()", "cut(0, 1)", "cut(0, 2)");
+                    for (int i = 0; i < 17; i++) {
+                        e.due(y, "cutOver(0, " + i % 3 + ", " + (i + 1 + i / 3) % 6 + ") = " + (i < 3 ? i : (i - 3 + i / 3) % 6));
+                    }
+                    for (int i = 16; i >= 5; i--) {
+                        e.due(y, "undo() = 0", "notch(0, " + i % 3 + ") = " + (i - 3 + i / 3) % 6);
+                    }
+                    e.due(y, "undo() = -2", "notch(0, 0) = 5", "notch(0, 1) = 0", "notch(0, 2) = 3");
                     stillThere();
                 });
     }

@@ -70,6 +70,7 @@ final class PastEdges {
                     for (int place = 1; place <= 6; place++) {
                         e.due(y, "letAhead(1, " + place + ") = " + (6 - place));
                     }
+                    everyRow();
                     // a LOG that is not in the WATER keeps its place between those that change
                     RaftForest z = Texts.forest("river 2;village 0;wood 1;width 1 1;log 0 1 1 0;log 0 1 1 0;log 0 1 1 0");
                     Texts.rule(z, "add log=1 and day=0;jam log=1 and bend=0 and day=1");
@@ -77,6 +78,27 @@ final class PastEdges {
                             "letAhead(2, 1) = 0", "letAhead(2, 2) = 2", "elected(1) = 1");
                     e.due(Stands.logs(1, 1), "letAhead(20, 0) = 0", "letAhead(0, 1) = -2");
                 });
+    }
+
+    /** Each of the rows of four LOGS, as the only one by which nothing jams: each LOG waits for its place to come. */
+    private void everyRow() {
+        for (int number = 0; number < 256; number++) {
+            int[] row = {number / 64, number / 16 % 4, number / 4 % 4, number % 4};
+            if ((1 << row[0] | 1 << row[1] | 1 << row[2] | 1 << row[3]) != 15) {
+                continue;
+            }
+            RaftForest x = Texts.forest("river 2;village 0;wood 1;width 1 4" + ";log 0 1 1 0".repeat(4));
+            StringBuilder rule = new StringBuilder("jam bend=0");
+            for (int place = 0; place < 4; place++) {
+                rule.append(" and not [log=" + row[place] + " and room=" + (4 - place) + "]");
+            }
+            x.force(Texts.rule(x, rule.toString()));
+            Calls.run(x, "launch(0)", "launch(1)", "launch(2)", "launch(3)");
+            e.due(x, "letAhead(1, 0) = 0");
+            for (int place = 0; place < 4; place++) {
+                e.due(x, "letAhead(1, " + (place + 1) + ") = " + row[place]);
+            }
+        }
     }
 
     private void kinTerms() {
@@ -333,8 +355,15 @@ final class PastEdges {
                     e.twins("going back over another river", Stands::rich, x -> {
                         x.image(0);
                         otherRiver(x);
+                        e.same("coins of the sea", x.count(12), 2);
                         e.same("back", x.back(0), 6);
                         Texts.tape(x, "mine 5");
+                    }, x -> x.image(0));
+                    e.twins("going back over sights of another village", Stands::rich, x -> {
+                        Calls.run(x, "image(0)", "sight(NONE, 0, 0)", "sight(5, 0, 1)", "sight(5, 0, 1)", "back(0)");
+                    }, x -> x.image(0));
+                    e.twins("going back over sights of another place", Stands::rich, x -> {
+                        Calls.run(x, "image(0)", "sight(NONE, 0, 0)", "sight(5, 1, 1)", "sight(5, 1, NONE)", "back(0)");
                     }, x -> x.image(0));
                     e.twins("going back to no river", Stands::riverless, x -> {
                         Texts.river(x, "river 9;village 0;wood 1;log 0 9 9 0");
@@ -367,9 +396,10 @@ final class PastEdges {
     }
 
     private static void otherRiver(RaftForest x) {
-        Texts.river(x, "river 9" + ";village 3".repeat(6) + ";wood 9;wood 8;width 2 9;width 3 8;toll 7" + ";log 1 9 9 5".repeat(12));
-        Calls.run(x, "law(1, 0)", "launch(0)", "launch(1)", "cut(0, 1)", "cutOver(0, 0, 2)", "land(1, 0)", "burn(1)");
-        Calls.run(x, "sight(5, 0, 3)", "days(3)", "sight(5, 0, 4)", "wedding(5)", "days(50)", "flood(9)", "dam(8)", "seed(1)");
+        Texts.river(x, "river 9" + ";village 3".repeat(6) + ";wood 9;wood 8;width 2 9;width 3 8;toll 7" + ";log 1 7 9 5".repeat(12));
+        Calls.run(x, "launch(0)", "launch(1)", "cut(0, 1)", "cutOver(0, 0, 2)", "land(1, 0)", "burn(1)", "law(3, 1)");
+        Calls.run(x, "sight(4, 1, 3)", "launch(4)", "days(3)", "sight(4, 1, 3)", "wedding(5)", "days(50)", "flood(9)", "dam(8)");
+        Calls.run(x, "seed(1)");
     }
 
     private void constants() {
@@ -550,6 +580,24 @@ final class PastEdges {
 
     private void count() {
         e.in(43);
+        e.edge("What 0: BENDS, 1: VILLAGES, 2: WOODS, 3: LOGS, 4: RULES,", () -> {
+            RaftForest x = Texts.forest("river 9" + ";village 0".repeat(6) + ";wood 1".repeat(4) + ";log 0 1 1 0".repeat(12));
+            for (int rule = 0; rule < 6; rule++) {
+                Texts.rule(x, "mine 1");
+            }
+            e.due(x, "count(0) = 9", "count(1) = 6", "count(2) = 4", "count(3) = 12", "count(4) = 6", "count(16) = 0");
+        });
+        e.edge("9: LOGS in the WATER, 10: SOLD, 11: BURNT,", () -> {
+            RaftForest x = Stands.logs(1, 1, 1, 1, 1, 1, 1, 1, 1, 1, 1, 1);
+            Texts.rule(x, "jam bend=0");
+            e.due(x, "count(9) = 0", "count(10) = 0", "count(11) = 0", "launch(0) = 0", "count(9) = 1", "launch(11) = 0",
+                    "count(9) = 2", "force(0) = -1", "days(2) = 2", "count(16) = 4", "force(NONE) = 0", "days(1) = 3",
+                    "count(9) = 2", "days(1) = 4", "count(9) = 0", "count(10) = 2", "count(16) = 4");
+            for (int log = 1; log < 11; log++) {
+                e.due(x, "burn(" + log + ") = 1", "count(11) = " + log);
+            }
+            e.due(Stands.logs(1, 1), "burn(0) = 1", "count(11) = 1", "burn(1) = 1", "count(11) = 2", "count(10) = 0");
+        });
         e.edge("5: the RULE IN FORCE (NONE),", () -> e.due(Stands.rich(), "count(5) = 1", "force(NONE) = 1", "count(5) = -1",
                 "force(0) = -1", "count(5) = 0"));
         e.edge("15: NOTCHES that can be UNDONE (kept),", () -> {

@@ -13,7 +13,9 @@ final class TextEdges {
         riverParts();
         first();
         ruleTexts();
+        signs();
         words();
+        plainWords();
         wordsOfNone();
         room();
         sums();
@@ -125,6 +127,12 @@ final class TextEdges {
             e.due(Texts.forest("river 2;toll 9"), "count(19) = 9");
             e.fails("river", "river 2;toll 10", 13, 1);
             e.fails("river", "river 2;toll 0;toll 0", 15, 4);
+            // once in each RIVER
+            RaftForest x = Texts.forest("river 2;toll 3");
+            e.same("another river", Texts.river(x, "river 2;toll 4"), 0);
+            e.due(x, "count(19) = 4");
+            e.same("another river", Texts.river(x, "river 2"), 0);
+            e.due(x, "count(19) = 0");
         });
         e.edge("BENDS 0 and on, downwards; behind the last one is the MOUTH.", () -> {
             RaftForest x = Texts.forest("river 9;village 0;wood 1;log 0 1 1 0");
@@ -147,6 +155,15 @@ final class TextEdges {
             e.due(x, "count(1) = 6", "count(2) = 4", "count(3) = 12", "village(5, 0) = 3", "village(6, 0) = -1000000",
                     "log(11, 0) = 3", "log(11, 1) = 12", "log(11, 2) = 32", "log(11, 3) = 25", "log(11, 6) = 72",
                     "log(12, 0) = -2", "log(8, 6) = 81", "log(0, 3) = 20");
+            // the most of everything can be asked of all
+            e.twins("nothing", () -> {
+                RaftForest y = Texts.forest(text.toString());
+                Texts.rule(y, "jam owner+room<day%7;take day%3=1;add room>log%4;elect owner+room;mine village+day%5 if room=0");
+                for (int village = 0; village < 6; village++) {
+                    Calls.run(y, "bind(" + village + ", 0)", "launch(" + (11 - village) + ")", "wedding(" + village + ")");
+                }
+                return Calls.run(y, "force(0)", "law(3, 0)", "days(45)");
+            }, y -> { }, y -> { });
         });
     }
 
@@ -197,6 +214,67 @@ final class TextEdges {
         });
     }
 
+    private void signs() {
+        e.edge("SIGN one of < <= = >= >.", () -> {
+            e.holds("1<2 and not 2<2 and not 3<2");
+            e.holds("1<=2 and 2<=2 and not 3<=2");
+            e.holds("2=2 and not 1=2 and not 3=2");
+            e.holds("3>=2 and 2>=2 and not 1>=2");
+            e.holds("3>2 and not 2>2 and not 1>2");
+            for (String sign : new String[] {"==", "=<", "=>", "<>", "<<", ">>", "><", "<==", ">=="}) {
+                e.fails("rule", "jam 1" + sign + "2", sign.length() > 2 ? 7 : 6, 0);
+            }
+            e.fails("rule", "jam 1!2", 5, 0);
+            e.fails("rule", "jam 1<2<3", 7, 0);
+            e.reads("rule", "jam 1<=2", 0);
+            e.fails("rule", "jam 1<=", 7, 0);
+            e.fails("rule", "jam 1<", 6, 0);
+        });
+        e.edge("TEST: PART { or PART }. PART: FACT { and FACT }. FACT: not FACT | [ TEST ] (these brackets are signs)", () -> {
+            e.holds("1=1 or 1=1 and 1=2");
+            e.holds("1=2 and 1=1 or 1=1");
+            e.holds("not [[1=1 or 1=1] and 1=2]");
+            e.holds("not 1=1 or 1=1");
+            e.holds("not 1=2 and not 1=2");
+            e.holds("not not 1=1 and not not not 1=2");
+            e.holds("1=2 or 1=2 or 1=2 or 1=1");
+            e.fails("rule", "jam []", 5, 0);
+            e.fails("rule", "jam [1=1", 8, 0);
+            e.fails("rule", "jam not", 7, 0);
+            e.fails("rule", "jam 1=1 and", 11, 0);
+        });
+    }
+
+    /** Of WORDS that are numbers of the LOG or of the DAY the least and the greatest. */
+    private void plainWords() {
+        e.edge("log, wood, length, rings,", () -> {
+            RaftForest x = Texts.forest("river 2;village 0" + ";wood 1".repeat(4) + ";log 0 1 99 0" + ";log 0 2 2 0".repeat(10)
+                    + ";log 3 99 1 0");
+            Texts.rule(x, "jam log=0 and wood=0 and length=1 and rings=99");
+            Texts.rule(x, "jam log=11 and wood=3 and length=99 and rings=1");
+            e.due(x, "launch(0) = 0", "launch(5) = 0", "launch(11) = 0", "force(0) = -1", "days(1) = 1", "log(0, 8) = 1",
+                    "log(5, 8) = 0", "log(11, 8) = 0", "land(0, 0) = true", "force(1) = 0", "land(5, 0) = false",
+                    "days(1) = 2", "log(11, 3) = 1", "log(11, 8) = 1");
+            e.due(x, "launch(0) = 0", "days(1) = 3", "log(0, 8) = 0");
+            RaftForest y = Texts.forest("river 2;village 0" + ";wood 1".repeat(4) + ";log 0 2 2 0".repeat(11) + ";log 3 99 1 0");
+            Texts.rule(y, "jam log=11 and wood=3 and length=99 and rings=1");
+            e.due(y, "launch(11) = 0", "force(0) = -1", "days(1) = 1", "log(11, 8) = 1", "saw(11, 98) = 1",
+                    "floats(1, 0) = 0");
+        });
+        e.edge("mine: 0), water, day.", () -> {
+            RaftForest x = Texts.forest("river 2;village 0;wood 1;log 0 1 1 0");
+            Texts.rule(x, "jam water=50 and day=0");
+            Texts.rule(x, "jam water=999 and day=60");
+            e.due(x, "launch(0) = 0", "force(0) = -1", "floats(2, 0) = 1", "flood(1) = 51", "floats(1, 0) = 0",
+                    "land(0, 0) = true", "days(59) = 59", "force(1) = 0");
+            for (int i = 0; i < 10; i++) {
+                x.flood(99);
+            }
+            e.due(x, "count(8) = 999", "launch(0) = 0", "floats(1, 0) = 0", "land(0, 0) = true", "days(1) = 60",
+                    "launch(0) = 0", "floats(1, 0) = 1");
+        });
+    }
+
     private void words() {
         e.edge("the MOUTH as many as there are BENDS", () -> {
             for (int bends : new int[] {2, 9}) {
@@ -226,7 +304,7 @@ final class TextEdges {
         });
     }
 
-    /** LOG 0 in the WATER of a RIVER of three BENDS, from which the mud has taken its one NOTCH; and it has not LOG 1's. */
+    /** Both LOGS in the WATER at BEND 0: the mud has taken the one NOTCH of LOG 0, LOG 1 has one of VILLAGE 0. */
     private static RaftForest muddy(String rule) {
         RaftForest x = Texts.forest("river 3;village 0;village 0;wood 1;log 0 1 1 1;log 0 1 1 0");
         Texts.rule(x, "jam log=0");
@@ -343,6 +421,10 @@ final class TextEdges {
             // of a RULE, not of a CLAUSE
             e.reads("rule", "elect 1" + "+1".repeat(29) + ";mine 1" + "+1".repeat(29), 0);
             e.fails("rule", "elect 1" + "+1".repeat(29) + ";mine 1" + "+1".repeat(30), 71 + 60, 3);
+            RaftForest x = new RaftForest();
+            for (int rule = 0; rule < 6; rule++) {
+                e.same("60 of each rule", Texts.rule(x, twenty), rule);
+            }
             String fifty7 = "elect 1" + "+1".repeat(56);
             e.reads("rule", fifty7 + " if 1=1", 0);
             e.fails("rule", fifty7 + "+1 if 1=1", fifty7.length() + 8, 3);
@@ -462,7 +544,7 @@ final class TextEdges {
             e.due(y, "feed(1919514213, 1914712635, 2003791716, 824188987, 1953459308) = 20", "end(20) = 20",
                     "feed(540614688, 538976288, 538976288, 538976288, 538976288) = 40", "river() = 0", "count(2) = 1",
                     "count(19) = 9");
-            // 255 is a byte, not a number below 0: "jam 1=1" and it, as the first one of a number, and "am" behind "j"
+            // 255 is a byte, not a number below 0: behind "jam 1=1", and as the first byte of a number
             e.due(y, "feed(1784769824, 826094079, 0, 0, 0) = 20", "rule() = " + Texts.fault(7, 0),
                     "feed(-1, 0, 0, 0, 0) = 20", "rule() = " + Texts.fault(0, 0));
         });
@@ -487,9 +569,18 @@ final class TextEdges {
                     "river() = 0", "count(2) = 1", "count(19) = 0");
             Texts.tape(x, "river 2;wood 1;toll 3");
             e.due(x, "end(1) = 1", "end(0) = 0", "count(18) = 0", "river() = -3");
+            // a NUMBER, a WORD and a SIGN end there, whatever lay behind
+            Texts.tape(x, "river 29");
+            e.due(x, "end(7) = 7", "river() = 0", "count(0) = 2");
+            Texts.tape(x, "jam 1=length;");
+            e.due(x, "end(9) = 9", "rule() = " + Texts.fault(6, 0));
+            Texts.tape(x, "jam day=days");
+            e.due(x, "end(11) = 11", "rule() = 0");
+            Texts.tape(x, "jam 1<=1");
+            e.due(x, "end(6) = 6", "rule() = " + Texts.fault(6, 0));
             // what comes behind comes at once behind the first n
             Texts.tape(x, "jam ");
-            e.due(x, "end(3) = 3", "feed(826093856, 538976288, 538976288, 538976288, 538976288) = 23", "rule() = 0");
+            e.due(x, "end(3) = 3", "feed(826093856, 538976288, 538976288, 538976288, 538976288) = 23", "rule() = 1");
         });
         e.edge("NONE, and nothing happens, if it has not so many, or n is below 0.", () -> {
             e.refuses(RaftForest::new, "end(1) = -1", "end(-1) = -1", "end(MOST) = -1", "end(LEAST) = -1");
@@ -513,10 +604,16 @@ final class TextEdges {
                     // but for RULES, IMAGES and x it is as the RIVER of a new object
                     e.twins("a river in place of another one", RaftForest::new, y -> {
                         Texts.river(y, "river 9" + ";village 1".repeat(6) + ";wood 9" + ";log 0 9 9 5".repeat(12));
+                        Texts.rule(y, "jam log<3;mine 1 if log<3");
                         Calls.run(y, "wedding(5)", "sight(3, 0, 1)", "launch(3)", "days(1)", "sight(3, 0, 2)", "days(33)");
+                        Calls.run(y, "launch(0)", "launch(1)", "launch(2)", "launch(4)", "force(0)", "law(3, 0)", "days(10)");
+                        e.due(y, "count(16) = 30", "log(1, 8) = 1", "count(12) = 3", "village(4, 2) = 13", "land(0, 4) = true");
                         Calls.run(y, "cut(1, 5)", "dam(8)", "flood(3)", "ahead(9, 0)", "saw(2, 2)", "law(1, 0)", "burn(0)");
                         Texts.river(y, text);
-                    }, y -> Texts.river(y, text));
+                    }, y -> {
+                        Texts.rule(y, "jam log<3;mine 1 if log<3");
+                        Texts.river(y, text);
+                    });
                     Texts.tape(x, "river 2");
                     e.due(x, "river() = 0", "count(3) = 0", "count(1) = 0", "payments() = 0", "elected(0) = -1");
                 });
@@ -528,7 +625,9 @@ final class TextEdges {
             }
             RaftForest x = Stands.rich();
             Texts.tape(x, "river 0");
-            e.due(x, "river() = " + Texts.fault(6, 1), "count(18) = 0", "river() = -3");
+            e.due(x, "river() = " + Texts.fault(6, 1), "count(18) = 0", "river() = -3", "count(0) = 4");
+            e.same("a river behind a fault", Texts.river(x, "river 3;village 2;wood 1;log 0 1 1 0"), 1);
+            e.due(x, "count(0) = 3", "count(1) = 1");
         });
     }
 

@@ -354,6 +354,11 @@ final class WaterEdges {
                         x.launch(log);
                     }
                     e.due(x, "votes(1, 0) = 63", "votes(1, 1) = 0", "votes(0, 0) = 0", "votes(0, 1) = 63");
+                    // of all twelve LOGS
+                    RaftForest y = Texts.forest("river 2;village 0;village 1;wood 1" + ";log 0 1 1 0".repeat(11)
+                            + ";log 0 1 1 1");
+                    e.due(y, "launch(11) = 1", "votes(1, 1) = 2", "dam(1) = 1", "appeal(1) = 0", "launch(0) = 0",
+                            "votes(1, 0) = 1", "votes(1, 1) = 2");
                 });
     }
 
@@ -375,6 +380,10 @@ final class WaterEdges {
             e.refuses(Stands::riverless, "elected(0) = -1");
             e.due(Texts.forest("river 2"), "elected(0) = -1");
             e.due(Stands.logs(1, 1, 1, 1, 1, 1, 1, 1, 1, 1, 1, 1), "elected(0) = 0", "elected(11) = 11", "elected(12) = -1");
+            // the FLOOD that is not told how high it is brings no WATER, and takes the DAMS
+            RaftForest x = Texts.forest("river 2;village 0;wood 1;width 1 3;log 0 1 1 0;log 0 1 1 0");
+            Texts.rule(x, "elect log if water=50 and [log=0 or room=3]");
+            e.due(x, "force(0) = -1", "launch(1) = 0", "dam(1) = 1", "elected(0) = 1", "elected(1) = 0", "bend(1, 1) = 1");
         });
     }
 
