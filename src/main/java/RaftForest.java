@@ -31,6 +31,8 @@ public final class RaftForest {
     private static final int DAYS_KEPT = 30;
     private static final int LAST_DAY = 9999;
     private static final int HIGHEST_WATER = 999;
+    /** The most that x can be, and that any number can. */
+    private static final int LARGEST = 2147483647;
 
     /** Where a LOG is: below ASHORE in the WATER at that BEND, from ASHORE on at a VILLAGE. */
     private static final int ASHORE = 20;
@@ -484,7 +486,7 @@ public final class RaftForest {
         if (what > size) {
             return REFUSED;
         }
-        int fewest = Integer.MAX_VALUE;
+        int fewest = LARGEST;
         boolean more = true;
         // 6 LOGS stand in 720 rows at most, and nothing is below 0 JAMS
         for (int rows = 0; rows < 720 && more && fewest > 0; rows++) {
@@ -765,7 +767,7 @@ public final class RaftForest {
     }
 
     private static int nextDrawn(int x) {
-        return (int) (x * 1103515245L + 12345L & Integer.MAX_VALUE);
+        return (int) (x * 1103515245L + 12345L & LARGEST);
     }
 
     // ---- counts and IMAGES
@@ -1337,7 +1339,15 @@ public final class RaftForest {
             boolean opens = tape.first == '[';
             boolean denies = tape.wordIn("not") == 0;
             if (!opens && !denies) {
-                return readsComparison(rule);
+                if (!readsSum(rule)) {
+                    return false;
+                }
+                int sign = readSign();
+                if (sign == NONE || !readsSum(rule)) {
+                    return false;
+                }
+                rule.write(sign);
+                return true;
             }
             if (depth >= DEEPEST) {
                 return tape.fails(TOO_DEEP);
@@ -1360,30 +1370,23 @@ public final class RaftForest {
             return true;
         }
 
-        private boolean readsComparison(Rule rule) {
-            if (!readsSum(rule)) {
-                return false;
-            }
-            int step;
+        /** Reads the SIGN that makes a FACT of two SUMS: its step; NONE, and a FAULT, without it. */
+        private int readSign() {
+            int step = NONE;
             if (tape.first == '<') {
                 step = tape.isLong() ? Rule.AT_MOST : Rule.BELOW;
             } else if (tape.first == '>') {
                 step = tape.isLong() ? Rule.AT_LEAST : Rule.ABOVE;
             } else if (tape.first == '=') {
                 step = Rule.EQUAL;
-            } else {
-                return tape.fails(CANNOT_STAND);
             }
-            if (items >= Rule.MOST_ITEMS) {
-                return tape.fails(ITEM_TOO_MANY);
+            if (step == NONE || items >= Rule.MOST_ITEMS) {
+                tape.fails(step == NONE ? CANNOT_STAND : ITEM_TOO_MANY);
+                return NONE;
             }
             items++;
             tape.pass();
-            if (!readsSum(rule)) {
-                return false;
-            }
-            rule.write(step);
-            return true;
+            return step;
         }
 
         private boolean readsSum(Rule rule) {

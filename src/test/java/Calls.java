@@ -73,7 +73,7 @@ final class Calls {
             case "NONE" -> RaftForest.NONE;
             case "true" -> 1;
             case "false" -> 0;
-            default -> Integer.parseInt(text);
+            default -> Integer.decode(text);
         };
     }
 }

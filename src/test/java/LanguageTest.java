@@ -5,6 +5,8 @@ import java.nio.file.Files;
 import java.nio.file.Path;
 import java.util.ArrayList;
 import java.util.List;
+import java.util.Map;
+import java.util.TreeMap;
 import java.util.TreeSet;
 import java.util.regex.Matcher;
 import java.util.regex.Pattern;
@@ -124,8 +126,9 @@ public final class LanguageTest {
         while (calls.find()) {
             used.add(calls.group());
         }
-        TreeSet<String> allowed = new TreeSet<>(List.of("Arrays.fill", "Integer.MAX_VALUE", "Integer.bitCount",
-                "Math.floorMod", "Math.max", "Math.min", "System.arraycopy"));
+        // constants of the library are none of what rule 4 lists
+        TreeSet<String> allowed = new TreeSet<>(List.of("Arrays.fill", "Integer.bitCount", "Math.floorMod", "Math.max",
+                "Math.min", "System.arraycopy"));
         CHECK.holds("what is used of the library: " + used, allowed.containsAll(used));
         // an object is made by a constructor or where a class begins alone: what the calls of a run make is nothing
         int made = 0;
@@ -139,24 +142,62 @@ public final class LanguageTest {
             }
         }
         CHECK.holds("there are some", made > 10);
-        methods(text);
+        Map<String, String> bodies = methods(code);
+        CHECK.holds("methods are found: " + bodies.size(), bodies.size() > 100);
+        callsDeep(bodies);
     }
 
-    /** A method begins at four or eight blanks and ends with the next brace there. */
-    private static void methods(String text) {
-        String[] lines = text.split("\n");
-        int count = 0;
+    /** Bodies of methods by names; a method begins at four or eight blanks and ends with the next brace there. */
+    private static Map<String, String> methods(String code) {
+        Map<String, String> bodies = new TreeMap<>();
+        String[] lines = code.split("\n");
         for (int i = 0; i < lines.length; i++) {
-            Matcher head = Pattern.compile("^( {4}| {8})(?! |if |for |while |switch )[\\w\\[\\] ]+\\(.*\\{$").matcher(lines[i]);
+            Matcher head = Pattern.compile("^( {4}| {8})(?! |if |for |while |switch )[\\w\\[\\] ]*?(\\w+)\\(.*\\{$")
+                    .matcher(lines[i]);
             if (head.matches()) {
-                int end = i;
+                int end = i + 1;
+                StringBuilder body = new StringBuilder();
                 while (!lines[end].equals(head.group(1) + "}")) {
+                    body.append(lines[end]).append('\n');
                     end++;
                 }
-                count++;
                 CHECK.holds("some sixty lines at most: " + lines[i].trim() + " has " + (end - i + 1), end - i + 1 <= 60);
+                // those of one name count as one that calls what any of them calls
+                bodies.merge(head.group(2), body.toString(), String::concat);
             }
         }
-        CHECK.holds("methods are found: " + count, count > 100);
+        return bodies;
+    }
+
+    /** Rule 11: calls go at most eight deep, a call of the library counted, too; recursion as one turn of it. */
+    private static void callsDeep(Map<String, String> bodies) {
+        Map<String, TreeSet<String>> called = new TreeMap<>();
+        bodies.forEach((name, body) -> {
+            TreeSet<String> names = new TreeSet<>();
+            Matcher calls = Pattern.compile("(?<!new )\\b(?!if\\b|for\\b|while\\b|switch\\b)(\\w+)\\(").matcher(body);
+            while (calls.find()) {
+                names.add(calls.group(1));
+            }
+            called.put(name, names);
+        });
+        for (String signature : FACE.split(";")) {
+            String name = signature.replaceAll("^\\w+ |\\(.*", "");
+            List<String> deepest = deepest(name, called, List.of());
+            CHECK.holds("eight deep at most: " + deepest, deepest.size() <= 8);
+            CHECK.holds(name + " is found", called.containsKey(name));
+        }
+    }
+
+    private static List<String> deepest(String name, Map<String, TreeSet<String>> called, List<String> open) {
+        List<String> here = new ArrayList<>(open);
+        here.add(name);
+        List<String> deepest = here;
+        for (String next : called.getOrDefault(name, new TreeSet<>())) {
+            if (!open.contains(next) && !next.equals(name)) {
+                List<String> one = deepest(next, called, here);
+                deepest = one.size() > deepest.size() ? one : deepest;
+            }
+        }
+        return deepest;
     }
 }
